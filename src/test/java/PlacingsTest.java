@@ -79,6 +79,13 @@ public final class PlacingsTest {
         checks.due("eight each", house.placings(8, 8, 8, 8), OUTSIDE);
         checks.due("a sum that wraps", house.placings(1 << 30, 1 << 30, 1 << 30, 1 << 30), OUTSIDE);
         checks.due("one less, one more", house.placings(9, -1, 0, 0), OUTSIDE);
+        int[][] oneIsOut = {{-1, 2, 0, 0}, {2, -1, 0, 0}, {0, 2, -1, 0}, {0, 0, 2, -1}, {-1, 0, 0, 2}};
+        for (int[] crowd : oneIsOut) {
+            int got = house.placings(crowd[0], crowd[1], crowd[2], crowd[3]);
+            checks.due("less than none, though the sum is fine", got, OUTSIDE);
+            got = house.placed(crowd[0], crowd[1], crowd[2], crowd[3], 0);
+            checks.due("placed, likewise", got, OUTSIDE);
+        }
         checks.due("twelve places", large.placings(0, 0, 0, 0), FULL);
         checks.due("eight places", bare(2, 4, 0).placings(1, 0, 0, 0), 8);
     }
@@ -261,6 +268,15 @@ public final class PlacingsTest {
         // The family of 74 is 0 (74 by 16, cut: 4; left over by 4: 0), so it is no foe of a.
         pair.foes(0, 1, true);
         yearsAre(pair, 0, 1, 1, 0, 2, 1);
+        // Each of these seeds gives place 0 of two: x is 74, 1874, 224 and 824, of families 0 to 3.
+        int[] seeds = {0, 24, 2, 10};
+        for (int family = 0; family < 4; family++) {
+            QuiltHouse foe = Checks.laid(1, 2, ".a");
+            foe.foes(0, family, true);
+            for (int born = 0; born < 4; born++) {
+                yearsAre(foe, seeds[born], 1, 1, 0, 2, born == family ? 2 : 1);
+            }
+        }
         checks.due("nothing is done", pair.told(3), 2);
         checks.due("nothing is sewn", pair.told(7), 0);
         QuiltHouse death = Checks.sewn(1, 3, "aaa");

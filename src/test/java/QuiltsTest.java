@@ -220,12 +220,27 @@ public final class QuiltsTest {
         checks.due("sew(3, 4)", house.sew(3, 4), NO);
         checks.due("seams of friends stay when they are friends", house.foes(1, 0, false), 1);
         checks.due("seams", house.told(7), 1);
+        foesOfMany();
         int[] unknown = {LEAST, -1, 4, MOST};
         for (int family : unknown) {
             checks.due("foes(" + family + ", 0, true)", house.foes(family, 0, true), UNKNOWN);
             checks.due("foes(0, " + family + ", false)", house.foes(0, family, false), UNKNOWN);
         }
         checks.due("sew(3, 4) still", house.sew(3, 4), NO);
+    }
+
+    private static void foesOfMany() {
+        QuiltHouse house = Checks.laid(3, 3, ".b.b.c.d.");
+        house.foes(0, 1, true);
+        house.foes(0, 3, true);
+        house.foes(2, 0, true);
+        house.foes(0, 2, false);
+        checks.due("foes of one family add up", house.birth(4, 0), 1);
+        checks.due("the friend", house.unpick(4, 5), 2);
+        house.death(4);
+        house.foes(1, 3, true);
+        checks.due("foes the other way round add up", house.birth(4, 3), 2);
+        checks.due("b is no foe of b and of c", house.birth(2, 1), 2);
     }
 
     private static void set() {

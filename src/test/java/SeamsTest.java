@@ -85,6 +85,8 @@ public final class SeamsTest {
             checks.due("patch(0, " + outside[i] + ")", house.patch(0, outside[i]), OUTSIDE);
             checks.due("UNKNOWN first", house.patch(unknown[i], outside[i]), UNKNOWN);
         }
+        checks.due("an empty quilt: the first place", new QuiltHouse().patch(3, 0), 0);
+        checks.due("an empty quilt: itself", new QuiltHouse().patch(3, 1), 1);
         QuiltHouse full = Checks.laid(1, 2, "ab");
         checks.due("no place", full.patch(0, 0), NONE);
         checks.due("no place, how many", full.patch(0, 1), NONE);
