@@ -456,7 +456,7 @@ public final class QuiltHouse {
     }
 
     private long[] clearedOrders() {
-        int sets = 1 << now.places();
+        int sets = 1 << Math.min(now.places(), MOST_PLACES);
         long[] row = orders;
         if (row == null || row.length < sets) {
             row = new long[sets];
