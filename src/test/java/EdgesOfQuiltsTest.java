@@ -169,9 +169,15 @@ public final class EdgesOfQuiltsTest {
         checks.due("none go twice", house.wipe(), 0);
         checks.due("the fault of an empty pad", house.fault(), 0);
         for (int i = 1; i <= 40; i++) {
-            checks.due("the sign " + i + " anew", house.say('.'), i);
+            checks.due("the sign " + i + " anew", house.say('a'), i);
         }
-        checks.due("and no more", house.say('.'), FULL);
+        checks.due("and no more", house.say('a'), FULL);
+        house.wipe();
+        Checks.say(house, "abcd.....");
+        checks.due("what was wiped is not laid", house.lay(), 4);
+        Checks.say(house, "a");
+        checks.due("nor is what was laid", house.fault(), 1);
+        checks.due("squares", house.told(3), 15);
         QuiltHouse lain = Checks.sewn(1, 2, "ab");
         lain.say('c');
         lain.wipe();
