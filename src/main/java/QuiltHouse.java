@@ -235,17 +235,13 @@ public final class QuiltHouse {
         }
         int squares = now.squares();
         int least = squares & -squares;
-        int rest = squares & ~least;
         int best = NONE;
         int fewest = NONE;
-        // From the greatest part down to the least one, so that of several the last one stays.
-        for (int others = rest; others > 0; ) {
-            others = (others - 1) & rest;
-            int part = least | others;
-            int unlike = 2 * Integer.bitCount(part) - Integer.bitCount(squares);
-            if (Math.abs(unlike) <= d) {
+        // All squares together, the greatest of these numbers, are no part: the other one would be empty.
+        for (int part = least; part < squares; part++) {
+            if (isPart(part, squares, least) && unlikeness(part, squares) <= d) {
                 int between = now.countBetween(part, squares & ~part);
-                if (best == NONE || between <= fewest) {
+                if (best == NONE || between < fewest) {
                     best = part;
                     fewest = between;
                 }
@@ -286,14 +282,18 @@ public final class QuiltHouse {
         if (squares >= row.length) {
             return 0;
         }
-        for (int first = squares; first != 0; first &= first - 1) {
-            row[first & -first] = 1;
+        for (int first = 0; first < now.places(); first++) {
+            if (has(squares, first)) {
+                row[1 << first] = 1;
+            }
         }
         for (int sewn = 1; sewn < squares; sewn++) {
             if (row[sewn] != 0) {
-                int next = now.joinedTo(sewn) & squares & ~sewn;
-                for (; next != 0; next &= next - 1) {
-                    row[sewn | (next & -next)] += row[sewn];
+                int nexts = now.joinedTo(sewn) & squares & ~sewn;
+                for (int next = 0; next < now.places(); next++) {
+                    if (has(nexts, next)) {
+                        row[sewn | 1 << next] += row[sewn];
+                    }
                 }
             }
         }
@@ -441,6 +441,16 @@ public final class QuiltHouse {
                 && trial.isSeam(place, other)
                 && !trial.isSeamOfFoes(place, other)
                 && !has(trial.pieceWith(1 << place, trial.squares()), other);
+    }
+
+    /** Whether a set is one of squares alone, with the least of them. */
+    private static boolean isPart(int part, int squares, int least) {
+        return (part & ~squares) == 0 && (part & least) != 0;
+    }
+
+    /** By how many the sizes of a part and of all others differ. */
+    private static int unlikeness(int part, int squares) {
+        return Math.abs(2 * Integer.bitCount(part) - Integer.bitCount(squares));
     }
 
     /** OUTSIDE or FULL, or 0 if so many sleepers can be asked for. */
@@ -702,10 +712,9 @@ public final class QuiltHouse {
         int coldSquares() {
             int squares = squares();
             int cold = 0;
-            for (int left = squares; left != 0; left &= left - 1) {
-                int square = left & -left;
-                if (Integer.bitCount(joinedTo(square)) < need) {
-                    cold |= square;
+            for (int place = 0; place < places(); place++) {
+                if (has(squares, place) && Integer.bitCount(joinedTo(1 << place)) < need) {
+                    cold |= 1 << place;
                 }
             }
             return cold;
@@ -738,10 +747,9 @@ public final class QuiltHouse {
             int squares = squares();
             int pieces = countPieces(squares);
             int parting = 0;
-            for (int left = squares; left != 0; left &= left - 1) {
-                int square = left & -left;
-                if (countPieces(squares & ~square) > pieces) {
-                    parting |= square;
+            for (int place = 0; place < places(); place++) {
+                if (has(squares, place) && countPieces(squares & ~(1 << place)) > pieces) {
+                    parting |= 1 << place;
                 }
             }
             return parting;

@@ -1,3 +1,5 @@
+import java.util.List;
+
 /**
  * Promises 1 to 13, sentence by sentence: the least and the greatest that is allowed, the empty and the full.
  * What is refused, and that it changes nothing, stands in RefusedTest.
@@ -10,6 +12,7 @@ public final class EdgesOfQuiltsTest {
     public static void main(String[] args) {
         newObject();
         noFoesAtFirst();
+        eachObjectIsItsOwn();
         quiltOfEachSize();
         quiltLeavesNoSquares();
         quiltKeepsAllElse();
@@ -71,6 +74,44 @@ public final class EdgesOfQuiltsTest {
                 checks.due(family + " and " + other + " are friends at first", house.birth(3, other), 1);
             }
         }
+    }
+
+    /** What is done with one object shows in no other, whether that was made ahead of it or after it. */
+    private static void eachObjectIsItsOwn() {
+        List<String> asNew = Looks.of(new QuiltHouse());
+        List<String> asChanged = Looks.of(changed());
+        QuiltHouse ahead = new QuiltHouse();
+        QuiltHouse one = changed();
+        QuiltHouse after = new QuiltHouse();
+        checks.fine("one made ahead is as new", Looks.of(ahead).equals(asNew));
+        checks.fine("one made after is as new", Looks.of(after).equals(asNew));
+        checks.fine("and leaves the first as it was", Looks.of(one).equals(asChanged));
+        QuiltHouse two = changed();
+        QuiltHouse three = changed();
+        two.foes(0, 0, true);
+        two.restore(0);
+        checks.due("the one has eighteen seams", three.told(7), 18);
+        checks.due("the other has none", two.told(7), 0);
+    }
+
+    private static QuiltHouse changed() {
+        QuiltHouse house = new QuiltHouse();
+        house.quilt(4, 4);
+        house.image(0);
+        for (int place = 0; place < 16; place++) {
+            house.birth(place, place / 4);
+        }
+        house.image(1);
+        house.foes(0, 1, true);
+        house.death(15);
+        house.set(0, 7);
+        house.set(1, 8);
+        house.set(2, 1);
+        house.grown();
+        house.patch(0, 0);
+        house.turn();
+        house.say('z');
+        return house;
     }
 
     // ---- 2: "ROWS and COLUMNS: PLACES. There are no SQUARES then; all else stays. OUTSIDE."

@@ -39,6 +39,7 @@ public final class LanguageTest {
         String text = withoutComments(Files.readString(Path.of("src/main/java/QuiltHouse.java")));
         words(text);
         library(text);
+        loopsHaveEnds(text);
         methodsAreShort(text);
         checks.end();
     }
@@ -126,6 +127,19 @@ public final class LanguageTest {
         while (calls.find()) {
             checks.fine(calls.group(1) + " of the library", LIBRARY.contains(calls.group(1)));
         }
+    }
+
+    /** Rule 9: each loop counts up by one from its start to a bound, in its own line. */
+    private static void loopsHaveEnds(String text) {
+        checks.fine("no while, no do", !Pattern.compile("\\b(while|do)\\b").matcher(text).find());
+        Pattern counter = Pattern.compile("for \\(int (\\w+) = [^;]+; \\1 < [^;]+; \\1\\+\\+\\) \\{");
+        Matcher loops = Pattern.compile("\\bfor \\(.*").matcher(text);
+        int found = 0;
+        while (loops.find()) {
+            checks.fine(loops.group() + " counts up to a bound", counter.matcher(loops.group()).matches());
+            found++;
+        }
+        checks.fine("loops were found", found > 0);
     }
 
     private static void methodsAreShort(String text) {
