@@ -152,6 +152,7 @@ public final class EdgesOfAskingTest {
         checks.due("alone: fewer pieces without it", Checks.laid(4, 4, SIXTEEN).parts(), 0);
         checks.due("an end: as many pieces without it", Checks.sewn(1, 2, "ab").parts(), 0);
         checks.due("amid two: one piece more", Checks.sewn(1, 3, "abc").parts(), 2);
+        checks.due("at the first place", Checks.sewn(2, 2, "aaa.").parts(), 1);
         checks.due("amid three: two more", Checks.sewn(2, 3, "aaa.a.").parts(), 2);
         checks.due("amid four: three more", Checks.sewn(3, 3, ".a.aaa.a.").parts(), 16);
         checks.due("a full quilt", Checks.sewn(4, 4, SIXTEEN).parts(), 0);
@@ -392,6 +393,19 @@ public final class EdgesOfAskingTest {
         washIs("two arms, unlike by one", cross, 1, 2, Checks.bits(1, 3));
         QuiltHouse pieces = Checks.sewn(3, 3, "a.aa.aa.a");
         washIs("pieces stay as they are", pieces, 0, 0, Checks.bits(0, 3, 6));
+        QuiltHouse ringed = Checks.sewn(3, 3, "aaaaaaaaa");
+        for (int arm : new int[] {1, 3, 5, 7}) {
+            ringed.unpick(4, arm);
+        }
+        washIs("the part of the least square, though the other is less as bits", ringed, 15, 0, 511 - 16);
+        washIs("likewise, unlike by seven", ringed, 7, 0, 511 - 16);
+        washIs("not unlike by seven", ringed, 6, 2, 3);
+        QuiltHouse columns = Checks.laid(2, 3, "aaaaaa");
+        columns.sew(0, 3);
+        columns.sew(1, 4);
+        columns.sew(2, 5);
+        washIs("the first column", columns, 2, 0, Checks.bits(0, 3));
+        washIs("a column and a half", columns, 0, 1, Checks.bits(0, 1, 3));
         QuiltHouse late = Checks.sewn(4, 4, "aaaa........bbbb");
         washIs("rows apart", late, 15, 0, 15);
         checks.due("all stays sewn", late.told(7), 6);
